@@ -1095,6 +1095,7 @@ public final class Blueline {
         private static final int MOST = Log.MOST;
 
         private int count;
+        private final int[] side = new int[MOST];
         private final int[] on = new int[MOST];
         private final int[] kind = new int[MOST];
         private final int[] server = new int[MOST];
@@ -1104,6 +1105,7 @@ public final class Blueline {
 
         private void add(int slot, int newKind, int newServer) {
             if (count < MOST) {
+                side[count] = Lineup.sideOf(slot);
                 on[count] = slot;
                 kind[count] = newKind;
                 server[count] = newServer;
@@ -1111,43 +1113,43 @@ public final class Blueline {
             }
         }
 
-        private int countFor(int side) {
+        private int countFor(int of) {
             int sum = 0;
             for (int i = 0; i < count; i++) {
-                if (Lineup.sideOf(on[i]) == side) {
+                if (side[i] == of) {
                     sum++;
                 }
             }
             return sum;
         }
 
-        private int countMinors(int side) {
+        private int countMinors(int of) {
             int sum = 0;
             for (int i = 0; i < count; i++) {
-                if (Lineup.sideOf(on[i]) == side) {
+                if (side[i] == of) {
                     sum += kind[i] == 'm' ? 1 : kind[i] == '2' ? 2 : 0;
                 }
             }
             return sum;
         }
 
-        private int countMajors(int side) {
+        private int countMajors(int of) {
             int sum = 0;
             for (int i = 0; i < count; i++) {
-                if (Lineup.sideOf(on[i]) == side && (kind[i] == 'M' || kind[i] == 'X')) {
+                if (side[i] == of && (kind[i] == 'M' || kind[i] == 'X')) {
                     sum++;
                 }
             }
             return sum;
         }
 
-        private void takeBackMinor(int side) {
+        private void takeBackMinor(int of) {
             for (int i = 0; i < count; i++) {
-                if (Lineup.sideOf(on[i]) == side && kind[i] == '2') {
+                if (side[i] == of && kind[i] == '2') {
                     kind[i] = 'm';
                     return;
                 }
-                if (Lineup.sideOf(on[i]) == side && kind[i] == 'm') {
+                if (side[i] == of && kind[i] == 'm') {
                     drop(i);
                     return;
                 }
@@ -1156,6 +1158,7 @@ public final class Blueline {
 
         private void drop(int index) {
             for (int i = index + 1; i < count; i++) {
+                side[i - 1] = side[i];
                 on[i - 1] = on[i];
                 kind[i - 1] = kind[i];
                 server[i - 1] = server[i];
@@ -1165,6 +1168,7 @@ public final class Blueline {
 
         private void copyFrom(Calls other) {
             count = other.count;
+            System.arraycopy(other.side, 0, side, 0, count);
             System.arraycopy(other.on, 0, on, 0, count);
             System.arraycopy(other.kind, 0, kind, 0, count);
             System.arraycopy(other.server, 0, server, 0, count);
@@ -1483,7 +1487,13 @@ public final class Blueline {
 
         private int mostSkaters(int side) {
             int most = period == 4 ? 3 + box.counting[1 - side] : 5 - box.counting[side];
-            return hasGoalie(side) ? most : most + 1;
+            int first = side * Lineup.SIZE;
+            for (int slot = first; slot < first + Lineup.SIZE; slot++) {
+                if (place[slot] >= 0 && lineup.isGoalie[slot] == 1) {
+                    return most;
+                }
+            }
+            return most + 1;
         }
 
         private boolean isShort(int side) {
@@ -1720,6 +1730,10 @@ public final class Blueline {
             return canServe(slot, kind, lineup.slotOf[server]) || refuse('v', server);
         }
 
+        private boolean canCall(int slot, int kind, int server) {
+            return canBeCalledOn(slot) && canServe(slot, kind, server);
+        }
+
         private boolean canBeCalledOn(int slot) {
             return slot >= 0 && board.place[slot] != Board.OUT;
         }
@@ -1847,7 +1861,7 @@ public final class Blueline {
                     makeFaceOff(a);
                     break;
                 case 'b':
-                    beginCalled();
+                    seatCalled();
                     break;
                 case 't':
                     passTenths(a);
@@ -1914,7 +1928,7 @@ public final class Blueline {
         }
 
         private void makeFaceOff(int spot) {
-            beginCalled();
+            seatCalled();
             board.phase = 'p';
             board.puck = spot;
             board.toucher = NONE;
@@ -1927,6 +1941,11 @@ public final class Blueline {
                     board.place[slot] = spot;
                 }
             }
+        }
+
+        private void seatCalled() {
+            beginCalled();
+            board.sendSurplusOff();
         }
 
         private void endRace(int side) {
@@ -2075,31 +2094,27 @@ public final class Blueline {
             }
             calls.count = 0;
             board.box.markRunning();
-            board.sendSurplusOff();
         }
 
         private void setSpare(Calls calls) {
-            int majors = Math.min(calls.countMajors(0), calls.countMajors(1));
-            int minors = Math.min(calls.countMinors(0), calls.countMinors(1));
-            if (has(EDITION_MINORS_STAY) && isOneMinorEach(calls) && !board.box.hasCounting()) {
-                minors = 0;
-            }
+            int minorsHome = calls.countMinors(0);
+            int minorsAway = calls.countMinors(1);
+            int majorsHome = calls.countMajors(0);
+            int majorsAway = calls.countMajors(1);
+            boolean isOneEach = minorsHome == 1 && minorsAway == 1 && majorsHome + majorsAway == 0;
+            boolean doMinorsStay = has(EDITION_MINORS_STAY) && isOneEach && !board.box.hasCounting();
             for (int side = 0; side < 2; side++) {
-                spareMajors[side] = majors;
-                spareMinors[side] = minors;
+                spareMajors[side] = Math.min(majorsHome, majorsAway);
+                spareMinors[side] = doMinorsStay ? 0 : Math.min(minorsHome, minorsAway);
             }
-        }
-
-        private static boolean isOneMinorEach(Calls calls) {
-            return calls.countMinors(0) == 1 && calls.countMinors(1) == 1
-                    && calls.countMajors(0) == 0 && calls.countMajors(1) == 0;
         }
 
         private void beginPenalty(int on, int kind, int calledServer) {
             int side = Lineup.sideOf(on);
             int player = lineup.playerAt[on];
             if (kind == 'X') {
-                putOut(on);
+                board.place[on] = Board.OUT;
+                board.box.freeServer(on);
             }
             int server = board.place[calledServer] == Board.OUT ? NONE : calledServer;
             if (server != NONE) {
@@ -2118,11 +2133,6 @@ public final class Blueline {
                     board.tally.tenths[player] += MINOR;
                 }
             }
-        }
-
-        private void putOut(int slot) {
-            board.place[slot] = Board.OUT;
-            board.box.freeServer(slot);
         }
 
         // Answers whether the penalty counts, 1 or 0: the earlier ones are those that cancel.
@@ -2186,19 +2196,15 @@ public final class Blueline {
             if (kind == 'k') {
                 board.copyFrom(beforeGoal);
             } else {
+                Calls calls = beforeGoal.calls;
                 board.copyFrom(side == 0 ? beforeEntryHome : beforeEntryAway);
-                callAgain(board.calls.count);
-            }
-            board.halt();
-        }
-
-        private void callAgain(int from) {
-            Calls calls = beforeGoal.calls;
-            for (int i = from; i < calls.count; i++) {
-                if (judge.canBeCalledOn(calls.on[i]) && judge.canServe(calls.on[i], calls.kind[i], calls.server[i])) {
-                    callPenalty(calls.on[i], calls.kind[i], calls.server[i]);
+                for (int i = board.calls.count; i < calls.count; i++) {
+                    if (judge.canCall(calls.on[i], calls.kind[i], calls.server[i])) {
+                        callPenalty(calls.on[i], calls.kind[i], calls.server[i]);
+                    }
                 }
             }
+            board.halt();
         }
 
         private void takeShot(int slot, int isGoal) {
