@@ -1278,13 +1278,13 @@ public final class Blueline {
             return NONE;
         }
 
-        private int firstRunningMinor(int of) {
+        private void endRunningMinor(int of) {
             for (int i = 0; i < count; i++) {
                 if (side[i] == of && runs[i] * counts[i] * isMinor[i] == 1) {
-                    return i;
+                    drop(i);
+                    return;
                 }
             }
-            return NONE;
         }
 
         private boolean isServedBy(int slot) {
@@ -2153,11 +2153,12 @@ public final class Blueline {
             addAssist(first);
             addAssist(second);
             if (board.isShort(other)) {
-                endMinorOf(other);
+                board.box.endRunningMinor(other);
             } else {
                 addPlus(side);
             }
             board.calls.takeBackMinor(other);
+            // As play stops, who served a minor that ended leaves the box for the bench.
             board.halt();
             if (board.period == 4) {
                 board.phase = 'e';
@@ -2176,19 +2177,6 @@ public final class Blueline {
                 if (board.place[slot] >= 0 && lineup.isGoalie[slot] == 0) {
                     board.tally.plus[lineup.playerAt[slot]] += Lineup.sideOf(slot) == side ? 1 : -1;
                 }
-            }
-        }
-
-        private void endMinorOf(int side) {
-            Box box = board.box;
-            int index = box.firstRunningMinor(side);
-            if (index == NONE) {
-                return;
-            }
-            int server = box.server[index];
-            box.drop(index);
-            if (server != NONE && !box.isServedBy(server)) {
-                board.place[server] = Board.BENCH;
             }
         }
 

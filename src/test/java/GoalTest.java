@@ -307,6 +307,12 @@ public final class GoalTest {
         before.stop();
         Hall.scoreBy(before, 2);
         Hall.impossible(before, "an entry ahead of the face-off", 'o', 0, () -> before.review('o'));
+        Blueline away = Hall.playing(0, 1);
+        away.touch(12);
+        away.carry(0);
+        away.stop();
+        Hall.scoreBy(away, 12);
+        Hall.impossible(away, "an entry of away ahead of the face-off", 'o', 1, () -> away.review('o'));
         Blueline other = Hall.playing(0, 1);
         other.touch(2);
         other.carry(3);

@@ -17,6 +17,7 @@ public final class MatchTest {
         firstOnes();
         closing();
         bansAreServed();
+        editions();
         withoutMatch();
         wrongArguments();
         Hall.end("MatchTest");
@@ -242,6 +243,31 @@ public final class MatchTest {
         Hall.due("was put out", hall.banOf(2), 2);
         Hall.due("was put out once", hall.banOf(12), 2);
         Hall.due("who served was not put out", hall.banOf(3), 0);
+    }
+
+    // Promise 19: each part of an edition does its own.
+    private static void editions() {
+        for (int edition = 0; edition < 32; edition++) {
+            Blueline offside = Hall.playing(edition, 2);
+            offside.touch(2);
+            offside.go(3, 3);
+            Hall.due("offside by " + edition, offside.carry(3), (edition & 1) > 0 ? 'p' : 's');
+            Blueline icing = Hall.playing(edition, 1);
+            icing.touch(2);
+            Hall.due("icing by " + edition, icing.send(3), (edition & 2) > 0 ? 'r' : 's');
+            Blueline minors = Hall.begun(edition);
+            minors.penalty(2, 'm', 2);
+            minors.penalty(12, 'm', 12);
+            minors.sit();
+            Hall.due("minors by " + edition, minors.running(0, true), (edition & 4) > 0 ? 1 : 0);
+            Blueline alike = Hall.begun(edition);
+            Hall.endThirdPeriod(alike);
+            Hall.due("overtime by " + edition, alike.period(), (edition & 8) > 0 ? 4 : 3);
+            if (alike.period() == 4) {
+                Hall.endPeriod(alike);
+            }
+            Hall.due("shots by " + edition, alike.phase(), (edition & 16) > 0 ? 'o' : 'e');
+        }
     }
 
     // Promises 22 to 58: no match was begun, or it is closed.

@@ -353,6 +353,13 @@ public final class PenaltyTest {
         major.sit();
         Hall.due("with a major they cancel", major.running(0, true), 0);
         Hall.due("the major counts", major.running(1, true), 1);
+        Blueline majors = Hall.begun(4);
+        for (int player = 2; player < 4; player++) {
+            majors.penalty(player, player == 2 ? 'm' : 'M', player);
+            majors.penalty(10 + player, player == 2 ? 'm' : 'M', 10 + player);
+        }
+        majors.sit();
+        Hall.due("with a major of each side all cancel", majors.running(0, false) + majors.running(1, false), 4);
         Blueline ahead = Hall.begun(4);
         ahead.penalty(13, 'm', 13);
         ahead.sit();
@@ -490,6 +497,17 @@ public final class PenaltyTest {
         Hall.due("the fourth one stays until a stop", hall.placeOf(15), 2);
         hall.stop();
         Hall.due("the stop sends off", hall.placeOf(15), -1);
+        Blueline both = Hall.begun(4 + 8);
+        Hall.endThirdPeriod(both);
+        both.penalty(2, 'm', 2);
+        both.penalty(12, 'm', 12);
+        both.faceOff(1);
+        both.enter(5);
+        both.enter(15);
+        Hall.due("3 of each side, 4 may be", both.may(0) * 10 + both.may(1), 44);
+        both.run(1200);
+        Hall.due("the side 0 ends first, while the other one is short", both.placeOf(2), 1);
+        Hall.due("the side 1 ends when the first one is not short", both.placeOf(12), -1);
     }
 
     private static void waitersInTheBox() {

@@ -153,7 +153,21 @@ public final class RosterTest {
         Hall.refused(hall, "the payroll of the other one's club would be 500", UNSUPPORTED, () -> hall.trade(2, 0));
         hall.setCap(500);
         Hall.due("up to the cap", hall.trade(0, 2), 100);
+        hall.setCap(400);
+        hall.trade(1, 0);
+        hall.setCap(399);
+        int dearer = hall.player(false, 101);
+        hall.sign(dearer, 1);
+        Hall.refused(hall, "a rise by 1 above the cap", UNSUPPORTED, () -> hall.trade(0, dearer));
+        hall.release(dearer);
+        hall.setCap(5000);
+        hall.trade(0, 1);
         hall.setCap(300);
+        hall.injure(0, true);
+        hall.trade(0, 3);
+        Hall.due("one who is injured costs nothing", hall.payroll(1), 0);
+        hall.trade(3, 0);
+        hall.injure(0, false);
         Hall.due("no payroll rises, though one is above the cap", hall.trade(3, 4), 100);
         Hall.due("a payroll falls, though it stays above the cap", hall.trade(1, 0), 200);
         Hall.due("it stays above the cap", hall.payroll(0), 400);
@@ -289,6 +303,11 @@ public final class RosterTest {
             hall.pass();
         }
         Hall.due("charge of 450 days", (Object) hall.charge(1), 450L * hall.payroll(1));
+        // More calls than the 512 that the document binds.
+        for (int day = 451; day <= 999; day++) {
+            hall.pass();
+        }
+        Hall.refused(hall, "the day 999", STATE, hall::pass);
     }
 
     // Promise 12, as waivers end.
