@@ -2209,6 +2209,7 @@ public final class Blueline {
             }
         }
 
+        // With as many shots of both, 3 at least, none is left to take, so that unlike goals end it then, too.
         private boolean hasWonShots(int side) {
             int other = 1 - side;
             int otherLeft = Math.max(0, 3 - board.shotCount[other]);
