@@ -1241,13 +1241,11 @@ public final class Blueline {
             counting[1] = 0;
             int busy = 0;
             for (int i = 0; i < count; i++) {
-                boolean isFree = server[i] < 0 || (busy >> server[i] & 1) == 0;
+                boolean isFree = (busy >> server[i] & 1) == 0;
                 boolean hasRoom = counts[i] == 0 || counting[side[i]] < MOST_COUNTING;
                 runs[i] = isFree && hasRoom ? 1 : 0;
                 counting[side[i]] += runs[i] * counts[i];
-                if (server[i] >= 0) {
-                    busy |= 1 << server[i];
-                }
+                busy |= 1 << server[i];
             }
         }
 
@@ -1294,14 +1292,6 @@ public final class Blueline {
                 }
             }
             return false;
-        }
-
-        private void freeServer(int slot) {
-            for (int i = 0; i < count; i++) {
-                if (server[i] == slot) {
-                    server[i] = NONE;
-                }
-            }
         }
 
         private boolean hasCounting() {
@@ -2053,8 +2043,8 @@ public final class Blueline {
             int side = box.side[index];
             boolean doesCount = box.counts[index] == 1;
             box.drop(index);
-            // Who served one that does not count waits in the box until play stops.
-            if (server != NONE && doesCount && !box.isServedBy(server)) {
+            // Who served one that does not count waits in the box until play stops; who is out stays out.
+            if (doesCount && !box.isServedBy(server) && board.place[server] != Board.OUT) {
                 boolean hasRoom = board.countSkaters(side) < board.mostSkaters(side);
                 board.place[server] = hasRoom ? Board.gateOf(side) : Board.BENCH;
             }
@@ -2109,15 +2099,14 @@ public final class Blueline {
             }
         }
 
-        private void beginPenalty(int on, int kind, int calledServer) {
+        private void beginPenalty(int on, int kind, int server) {
             int side = Lineup.sideOf(on);
             int player = lineup.playerAt[on];
             if (kind == 'X') {
                 board.place[on] = Board.OUT;
-                board.box.freeServer(on);
             }
-            int server = board.place[calledServer] == Board.OUT ? NONE : calledServer;
-            if (server != NONE) {
+            // Of who is out nobody is in the box, but the penalties stay this one's and go one behind the other.
+            if (board.place[server] != Board.OUT) {
                 board.place[server] = Board.BOXED;
             }
             if (kind == 'x') {

@@ -139,7 +139,7 @@ final class Model {
             }
             boolean can = true;
             for (int j = 0; j < i; j++) {
-                can &= penalty.server == -1 || now.penalties.get(j).server != penalty.server;
+                can &= now.penalties.get(j).server != penalty.server;
             }
             boolean runs = can && (!penalty.counts || counting < 2);
             if (runs && penalty.counts) {
@@ -505,7 +505,7 @@ final class Model {
     private void end(Penalty penalty) {
         now.penalties.remove(penalty);
         int server = penalty.server;
-        if (server != -1 && penalty.counts && !serves(server)) {
+        if (now.place[server] != OUT && penalty.counts && !serves(server)) {
             boolean fits = skatersOn(penalty.side) + 1 <= may(penalty.side);
             now.place[server] = fits ? 1 + penalty.side : BENCH;
         }
@@ -553,12 +553,11 @@ final class Model {
             int side = sideOf(call[0]);
             if (call[1] == 'X') {
                 now.place[call[0]] = OUT;
-                now.penalties.stream().filter(p -> p.server == call[0]).forEach(p -> p.server = -1);
             }
             for (int i = 0; i < (call[1] == '2' ? 2 : 1); i++) {
                 Penalty penalty = new Penalty();
                 penalty.side = side;
-                penalty.server = now.place[call[2]] == OUT ? -1 : call[2];
+                penalty.server = call[2];
                 penalty.isMinor = call[1] == 'm' || call[1] == '2';
                 penalty.left = penalty.isMinor ? 1200 : call[1] == 'x' ? 6000 : 3000;
                 penalty.counts = penalty.isMinor ? minorsBegun[side]++ >= minors
@@ -610,7 +609,7 @@ final class Model {
 
     private void endByGoal(Penalty penalty) {
         now.penalties.remove(penalty);
-        if (penalty.server != -1 && !serves(penalty.server)) {
+        if (now.place[penalty.server] != OUT && !serves(penalty.server)) {
             now.place[penalty.server] = BENCH;
         }
     }

@@ -17,6 +17,7 @@ public final class PenaltyTest {
         majorsCancel();
         putOut();
         putOutWhoServes();
+        putOutServerOfMore();
         putOutGoalie();
         endOfPeriod();
         overtimeEnds();
@@ -415,6 +416,7 @@ public final class PenaltyTest {
         Hall.due("out from the bench", bench.placeOf(7), -3);
     }
 
+    // Promises 48 to 50: penalties of who is put out run on without anybody, still one behind the other.
     private static void putOutWhoServes() {
         Blueline hall = Hall.begun(0);
         hall.penalty(2, 'm', 2);
@@ -423,23 +425,68 @@ public final class PenaltyTest {
         hall.penalty(2, 'X', 3);
         hall.sit();
         Hall.due("out", hall.placeOf(2), -3);
-        Hall.due("nothing left to serve", hall.leftOf(2), 0);
+        Hall.due("left of the minor and the misconduct", hall.leftOf(2), 7200);
         Hall.due("the minor and the major run", hall.running(0, true), 2);
-        Hall.due("the misconduct runs, too, as nobody serves it", hall.running(0, false), 1);
+        Hall.due("the misconduct does not run ahead of the minor's end", hall.running(0, false), 0);
+        Hall.due("it waits", hall.waiting(0), 1);
         hall.faceOff(1);
         hall.run(1200);
         Hall.due("the minor ends", hall.running(0, true), 1);
+        Hall.due("the misconduct runs then", hall.running(0, false), 1);
         Hall.due("nobody comes for it", hall.placeOf(2), -3);
-        hall.run(4800);
+        hall.run(6000);
         Hall.due("the misconduct ends", hall.running(0, false), 0);
-        Blueline together = Hall.begun(0);
-        together.penalty(2, 'X', 3);
-        together.penalty(2, 'm', 2);
-        together.penalty(0, 'm', 2);
-        together.sit();
-        Hall.due("out ahead of its own minor", together.placeOf(2), -3);
-        Hall.due("all run without", together.running(0, true) + together.waiting(0), 3);
-        Hall.due("nothing left to serve", together.leftOf(2), 0);
+        Hall.due("nothing left", hall.leftOf(2), 0);
+        hall.stop();
+        Hall.due("out behind a stop, too", hall.placeOf(2), -3);
+    }
+
+    // Promises 48 to 50: two minors of a server who is out as they run, or ahead of their beginning.
+    private static void putOutServerOfMore() {
+        Blueline two = Hall.begun(0);
+        two.penalty(0, '2', 2);
+        two.penalty(12, 'M', 12);
+        two.penalty(2, 'X', 3);
+        two.sit();
+        Hall.due("one of the two minors runs", two.running(0, true), 1);
+        Hall.due("the other one waits", two.waiting(0), 1);
+        Hall.due("the major does not count", two.running(0, false), 1);
+        two.faceOff(1);
+        two.run(1200);
+        Hall.due("the second one runs then", two.running(0, true), 1);
+        Hall.due("none waits", two.waiting(0), 0);
+        two.run(1200);
+        Hall.due("both ended", two.running(0, true), 0);
+        Hall.due("the server is out", two.placeOf(2), -3);
+        Blueline ahead = Hall.begun(0);
+        ahead.penalty(2, 'X', 3);
+        ahead.penalty(2, 'm', 2);
+        ahead.penalty(0, 'm', 2);
+        ahead.sit();
+        Hall.due("out ahead of its own minor", ahead.placeOf(2), -3);
+        Hall.due("the major and one minor run", ahead.running(0, true), 2);
+        Hall.due("the other minor waits", ahead.waiting(0), 1);
+        Hall.due("left of both", ahead.leftOf(2), 2400);
+        ahead.faceOff(1);
+        ahead.run(1200);
+        Hall.due("the other minor runs then", ahead.leftOf(2), 1200);
+        Hall.due("with the major", ahead.running(0, true), 2);
+        Blueline goal = Hall.begun(0);
+        goal.penalty(2, '2', 2);
+        goal.penalty(2, 'X', 3);
+        goal.sit();
+        Hall.scoreBy(goal, 12);
+        Hall.due("a goal ends the first minor", goal.leftOf(2), 1200);
+        Hall.due("and nobody comes to the bench", goal.placeOf(2), -3);
+        Blueline both = Hall.begun(0);
+        both.penalty(2, 'm', 2);
+        both.penalty(3, 'm', 3);
+        both.penalty(12, 'M', 12);
+        both.penalty(13, 'M', 13);
+        both.penalty(2, 'X', 4);
+        both.penalty(3, 'X', 5);
+        both.sit();
+        Hall.due("those of two who are out run at once", both.running(0, true), 2);
     }
 
     private static void putOutGoalie() {
