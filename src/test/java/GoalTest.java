@@ -9,11 +9,17 @@ public final class GoalTest {
         impossibleGoals();
         plus();
         powerPlayGoals();
+        minorBehindAMajor();
         callsAreTakenBack();
+        callsTakenBackInPart();
         overtimeGoals();
         reviewsK();
         reviewsKOfPenalties();
+        reviewsKOfAll();
+        reviewsKOfTwoMinors();
         reviewsO();
+        reviewsOOfTheSamePlace();
+        reviewsOWithoutOldCalls();
         reviewsOWithCalls();
         reviewsOWithoutEntry();
         reviewOrder();
@@ -144,6 +150,46 @@ public final class GoalTest {
         Hall.due("the tally of tenths stays", hall.tally(15, 'p'), 2400);
     }
 
+    // Promise 35: as a minor ends, those behind it stay what they are.
+    private static void minorBehindAMajor() {
+        Blueline hall = Hall.begun(0);
+        hall.penalty(15, 'm', 15);
+        hall.penalty(16, 'M', 16);
+        hall.penalty(14, 'm', 14);
+        hall.sit();
+        Hall.scoreBy(hall, 2);
+        Hall.due("the minor ended", hall.leftOf(15), 0);
+        Hall.due("the major and the other minor run", hall.running(1, true), 2);
+        Hall.scoreBy(hall, 2);
+        Hall.due("the major goes on", hall.leftOf(16), 3000);
+        Hall.due("the other minor ended", hall.leftOf(14), 0);
+        Hall.due("on the bench", hall.placeOf(14), -1);
+        Hall.scoreBy(hall, 2);
+        Hall.due("the major goes on still", hall.leftOf(16), 3000);
+        Blueline waits = Hall.begun(0);
+        waits.penalty(15, 'M', 15);
+        waits.penalty(16, 'M', 16);
+        waits.penalty(14, 'm', 14);
+        waits.sit();
+        Hall.scoreBy(waits, 2);
+        Hall.due("a minor that does not run does not end", waits.leftOf(14), 1200);
+        Hall.due("no plus", waits.tally(2, '+'), 0);
+        Blueline cancelled = Hall.begun(0);
+        cancelled.penalty(15, 'm', 15);
+        cancelled.penalty(5, 'm', 5);
+        cancelled.penalty(16, 'M', 16);
+        cancelled.sit();
+        Hall.scoreBy(cancelled, 2);
+        Hall.due("a minor that does not count does not end", cancelled.leftOf(15), 1200);
+        Blueline more = Hall.begun(0);
+        more.penalty(15, 'm', 15);
+        more.penalty(15, 'x', 15);
+        more.sit();
+        Hall.scoreBy(more, 2);
+        Hall.due("who serves another one stays in the box", more.placeOf(15), -2);
+        Hall.due("the misconduct runs", more.running(1, false), 1);
+    }
+
     // Promise 35: the first call of a minor is taken back.
     private static void callsAreTakenBack() {
         Blueline hall = attacking(0);
@@ -180,6 +226,47 @@ public final class GoalTest {
         own.touch(12);
         own.send(3);
         Hall.due("a call on the own side waits", own.waiting(0), 1);
+    }
+
+    private static void callsTakenBackInPart() {
+        Blueline hall = attacking(0);
+        hall.penalty(12, 'x', 12);
+        hall.penalty(14, 'm', 14);
+        hall.penalty(10, '2', 13);
+        hall.penalty(15, 'M', 15);
+        hall.goal(2, -1, -1);
+        hall.sit();
+        Hall.due("none on 14", hall.tally(14, 'p'), 0);
+        Hall.due("two minors on 10", hall.tally(10, 'p'), 2400);
+        Hall.due("13 serves them", hall.leftOf(13), 2400);
+        Hall.due("none on 13", hall.tally(13, 'p'), 0);
+        Hall.due("a major on 15", hall.tally(15, 'p'), 3000);
+        Hall.due("a misconduct on 12", hall.tally(12, 'p'), 6000);
+        Blueline cancels = attacking(0);
+        cancels.penalty(13, '2', 13);
+        cancels.goal(2, -1, -1);
+        cancels.penalty(3, 'm', 3);
+        cancels.sit();
+        Hall.due("one of two left cancels", cancels.running(0, true) + cancels.running(1, true), 0);
+        Blueline four = attacking(4);
+        four.penalty(13, '2', 13);
+        four.goal(2, -1, -1);
+        four.penalty(3, 'm', 3);
+        four.sit();
+        Hall.due("one of two left is one minor", four.running(0, true) + four.running(1, true), 2);
+        Blueline majors = attacking(0);
+        majors.penalty(12, 'M', 12);
+        majors.penalty(13, 'X', 14);
+        majors.penalty(15, 'x', 15);
+        majors.goal(2, -1, -1);
+        Hall.due("no others are taken back", majors.waiting(1), 3);
+        Blueline twice = attacking(0);
+        twice.penalty(13, '2', 13);
+        twice.goal(2, -1, -1);
+        twice.review('k');
+        Hall.due("a refused goal takes nothing back", twice.waiting(1), 1);
+        twice.sit();
+        Hall.due("both minors began", twice.leftOf(13), 2400);
     }
 
     // Promise 35: in the period 4.
@@ -230,10 +317,122 @@ public final class GoalTest {
         hall.goal(2, -1, -1);
         hall.review('k');
         Hall.due("the minor runs on", hall.leftOf(16), 1200);
+        Hall.due("it runs", hall.running(1, true), 1);
+        Hall.due("away may be 4 again", hall.may(1), 4);
         Hall.due("in the box", hall.placeOf(16), -2);
         Hall.due("the call waits", hall.waiting(1), 1);
         hall.sit();
         Hall.due("both minors of it began", hall.leftOf(15), 2400);
+    }
+
+    // Promise 36: penalties of both sides are as ahead of the goal that ended one of them.
+    private static void reviewsKOfAll() {
+        Blueline hall = Hall.begun(0);
+        hall.penalty(16, 'x', 16);
+        hall.penalty(10, 'm', 15);
+        hall.penalty(6, 'x', 6);
+        hall.penalty(14, 'M', 14);
+        hall.penalty(13, 'm', 13);
+        hall.faceOff(3);
+        hall.touch(2);
+        hall.run(100);
+        String before = penaltiesOf(hall);
+        hall.goal(2, 3, 4);
+        Hall.due("the first minor ended", hall.leftOf(15), 0);
+        Hall.due("the next one runs", hall.waiting(1), 0);
+        hall.review('k');
+        Hall.due("all is as ahead", penaltiesOf(hall), before);
+        hall.faceOff(3);
+        hall.run(1100);
+        Hall.due("the first minor ended by its tenths", hall.leftOf(15), 0);
+        Hall.due("left of the next one", hall.leftOf(13), 1200);
+        Hall.due("left of the major", hall.leftOf(14), 1800);
+        Hall.due("left of the misconducts", hall.leftOf(16) + hall.leftOf(6), 9600);
+        hall.touch(2);
+        hall.goal(2, -1, -1);
+        Hall.due("the next minor ended by the goal", hall.leftOf(13), 0);
+        Hall.due("the major goes on", hall.leftOf(14), 1800);
+        Hall.due("one goal", hall.score(0), 1);
+    }
+
+    // Promise 36: what ran and what waited ahead of the goal.
+    private static void reviewsKOfTwoMinors() {
+        Blueline hall = Hall.begun(0);
+        hall.penalty(15, '2', 15);
+        hall.penalty(16, 'x', 16);
+        hall.faceOff(3);
+        hall.touch(2);
+        hall.goal(2, -1, -1);
+        Hall.due("the second minor and the misconduct run", hall.waiting(1), 0);
+        hall.review('k');
+        Hall.due("the second minor waits", hall.waiting(1), 1);
+        Hall.due("the first one runs", hall.running(1, true), 1);
+        Hall.due("the misconduct runs", hall.running(1, false), 1);
+        Hall.due("left of both", hall.leftOf(15), 2400);
+        Hall.due("nobody entered", hall.placeOf(15), -2);
+    }
+
+    private static String penaltiesOf(Blueline hall) {
+        StringBuilder text = new StringBuilder();
+        for (int player = 0; player < 20; player++) {
+            text.append(' ').append(hall.leftOf(player)).append(',').append(hall.placeOf(player));
+        }
+        for (int side = 0; side < 2; side++) {
+            text.append(' ').append(hall.running(side, true)).append(hall.running(side, false));
+            text.append(hall.waiting(side)).append(hall.may(side));
+        }
+        return text.toString();
+    }
+
+    // Promise 36: an entry comes from another place.
+    private static void reviewsOOfTheSamePlace() {
+        Blueline none = attacking(0);
+        none.carry(3);
+        none.send(3);
+        none.touch(2);
+        none.goal(2, -1, -1);
+        Hall.impossible(none, "to the same place is no entry", 'o', 0, () -> none.review('o'));
+        Blueline later = Hall.playing(0, 2);
+        later.touch(2);
+        later.run(10);
+        later.carry(3);
+        later.run(20);
+        later.carry(3);
+        later.run(30);
+        later.send(3);
+        later.touch(2);
+        later.goal(2, -1, -1);
+        later.review('o');
+        Hall.due("ahead of the entry, not of what stayed there", later.clock(), 11990);
+        Blueline brought = Hall.playing(0, 2);
+        brought.touch(2);
+        brought.carry(1);
+        brought.go(12, 1);
+        brought.touch(12);
+        brought.send(3);
+        brought.go(2, 3);
+        brought.touch(2);
+        brought.goal(2, -1, -1);
+        Hall.impossible(brought, "the other side brought it there", 'o', 0, () -> brought.review('o'));
+    }
+
+    // Promise 36: calls of an earlier goal are none since the entry.
+    private static void reviewsOWithoutOldCalls() {
+        Blueline hall = attacking(0);
+        hall.penalty(12, 'M', 12);
+        hall.penalty(13, 'M', 13);
+        hall.goal(2, -1, -1);
+        hall.faceOff(2);
+        hall.touch(2);
+        hall.penalty(14, 'x', 14);
+        hall.carry(3);
+        hall.goal(2, -1, -1);
+        hall.review('o');
+        Hall.due("the one ahead of the entry waits", hall.waiting(1), 1);
+        Hall.due("the goal ahead stays", hall.score(0), 1);
+        hall.sit();
+        Hall.due("the misconduct began", hall.leftOf(14), 6000);
+        Hall.due("the majors began once", hall.leftOf(12) + hall.leftOf(13), 6000);
     }
 
     // Promise 36: o.
@@ -379,6 +578,7 @@ public final class GoalTest {
         Hall.due("shots", hall.shots(0, false), 1);
         Hall.due("goals", hall.shots(0, true), 1);
         Hall.due("of the other side", hall.shots(1, false), 0);
+        Hall.due("no penalty", hall.waiting(0) + hall.waiting(1), 0);
         Hall.due("no score yet", hall.score(0), 0);
         Hall.due("no goal in the tally", hall.tally(2, 'g'), 0);
         Hall.impossible(hall, "the side 0 has to wait", 'v', 3, () -> hall.shoot(3, true));

@@ -11,8 +11,13 @@ public final class HistoryTest {
         strikesOfPenalties();
         strikesAtTheEnd();
         strikesAndReviews();
+        strikesTwice();
+        strikesOfAllAtOnce();
+        playsAgainBehindAStrike();
         amends();
+        amendsTellAllAnew();
         amendsAreRefused();
+        amendsNoOtherEvent();
         amendsStayBehindReviews();
         playsAgain();
         playsAgainWithShots();
@@ -151,6 +156,70 @@ public final class HistoryTest {
         Hall.due("events then", lettersOf(entry), "fg");
     }
 
+    // Promises 46, 54 and 56: nothing of what was told before stays behind.
+    private static void strikesTwice() {
+        Blueline hall = Hall.playing(1, 2);
+        hall.touch(2);
+        hall.go(3, 3);
+        hall.carry(3);
+        Hall.due("offside", hall.isOffside(0), true);
+        hall.strike(3);
+        Hall.due("not without the entry", hall.isOffside(0), false);
+        String before = Hall.picture(hall);
+        Hall.due("played again behind a strike", hall.again(0, 0), 0);
+        Hall.due("changes nothing", Hall.picture(hall), before);
+        Hall.due("all goes", hall.strike(0), 0);
+        Hall.due("not offside at the beginning", hall.isOffside(0), false);
+        Hall.due("the puck is at 1", hall.puck(), 1);
+        Blueline again = Hall.playing(1, 1);
+        again.touch(2);
+        again.go(3, 3);
+        again.carry(3);
+        again.strike(2);
+        again.goal(2, -1, -1);
+        before = Hall.picture(again);
+        Hall.due("by another edition the same", again.again(31, 0), 1);
+        again.strike(3);
+        again.go(3, 3);
+        Hall.due("by another edition the same again", again.again(2, 0), 0);
+        Hall.due("events stay", lettersOf(again), "fucg");
+    }
+
+    private static void strikesOfAllAtOnce() {
+        Blueline hall = Hall.playing(1, 2);
+        hall.touch(2);
+        hall.go(3, 3);
+        hall.carry(3);
+        hall.strike(3);
+        hall.strike(0);
+        Hall.due("not offside at the beginning", hall.isOffside(0), false);
+        Hall.due("no events", hall.events(), 0);
+    }
+
+    // Promise 56: what another edition would stop goes on here.
+    private static void playsAgainBehindAStrike() {
+        Blueline hall = Hall.playing(1, 2);
+        hall.touch(2);
+        hall.go(3, 3);
+        hall.run(5);
+        hall.carry(3);
+        hall.run(20);
+        hall.strike(3);
+        Hall.due("no goal by another edition", hall.again(0, 0), 0);
+        Hall.due("still playing", hall.phase(), 'p');
+        Hall.due("still offside", hall.isOffside(0), true);
+        Hall.due("clock without what was struck out", hall.clock(), 11980);
+        hall.go(3, 2);
+        hall.go(2, 2);
+        hall.go(2, 3);
+        hall.touch(2);
+        hall.goal(2, -1, -1);
+        hall.amend(hall.events() - 1, 4, -1);
+        Hall.due("no goal by another edition again", hall.again(0, 0), 0);
+        Hall.due("the goal stays here", hall.score(0), 1);
+        Hall.due("the amended one", hall.tally(4, 'a'), 1);
+    }
+
     // Promise 55.
     private static void amends() {
         Blueline hall = Hall.playing(0, 3);
@@ -174,6 +243,42 @@ public final class HistoryTest {
         hall.faceOff(1);
         hall.strike(0);
         Hall.due("an amended goal is told anew", hall.tally(13, 'a'), 1);
+    }
+
+    private static void amendsTellAllAnew() {
+        Blueline hall = Hall.playing(0, 3);
+        hall.run(100);
+        hall.touch(2);
+        hall.goal(2, -1, -1);
+        hall.faceOff(3);
+        hall.run(20);
+        hall.touch(2);
+        hall.goal(2, 3, -1);
+        Hall.due("amend the first one", hall.amend(3, 4, -1), 8);
+        Hall.due("clock", hall.clock(), 11880);
+        Hall.due("score", hall.score(0), 2);
+        Hall.due("goals", hall.tally(2, 'g'), 2);
+        Hall.due("plus", hall.tally(2, '+'), 2);
+        Hall.due("amend the second one", hall.amend(7, 5, 4), 8);
+        Hall.due("clock then", hall.clock(), 11880);
+        Hall.due("assists of both", hall.tally(4, 'a'), 2);
+        Hall.due("score then", hall.score(0), 2);
+    }
+
+    // Promise 55: an event that is no goal, though one were possible there.
+    private static void amendsNoOtherEvent() {
+        Blueline hall = Hall.playing(0, 3);
+        hall.touch(2);
+        hall.go(3, 3);
+        hall.carry(3);
+        hall.change(4, 7);
+        hall.goal(2, -1, -1);
+        hall.review('k');
+        for (int index : new int[] {0, 1, 2, 3, 4, 6}) {
+            Hall.refused(hall, "no goal, event " + index, UNSUPPORTED, () -> hall.amend(index, 5, 6));
+            Hall.refused(hall, "no goal and none, event " + index, UNSUPPORTED, () -> hall.amend(index, -1, -1));
+        }
+        Hall.due("the goal", hall.amend(5, 5, 6), 7);
     }
 
     private static void amendsAreRefused() {

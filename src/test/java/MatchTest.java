@@ -16,6 +16,7 @@ public final class MatchTest {
         beginning();
         firstOnes();
         closing();
+        closingWithPenalties();
         bansAreServed();
         editions();
         withoutMatch();
@@ -97,6 +98,8 @@ public final class MatchTest {
         Blueline begun = Hall.begun(0);
         begun.sign(9, 0);
         Hall.refused(begun, "a match that has begun", NOTHING, () -> begun.dress(0, 9));
+        Hall.refused(begun, "one of its line-up", NOTHING, () -> begun.dress(0, 2));
+        Hall.refused(begun, "no such side of it", INDEX, () -> begun.dress(2, 9));
         onWaivers();
     }
 
@@ -209,6 +212,40 @@ public final class MatchTest {
         Hall.due("a new match has no events", hall.events(), 0);
         Hall.due("a new match has its clock", hall.clock(), 12000);
         Hall.due("a new match has its period", hall.period(), 1);
+    }
+
+    // Promises 38 and 47 to 50: a new match has nothing of the last one.
+    private static void closingWithPenalties() {
+        Blueline hall = Hall.begun(1);
+        Hall.endPeriod(hall);
+        Hall.endPeriod(hall);
+        hall.faceOff(1);
+        hall.run(11000);
+        hall.penalty(2, 'm', 2);
+        hall.penalty(12, 'x', 12);
+        hall.stop();
+        hall.sit();
+        hall.penalty(13, 'm', 13);
+        hall.faceOff(1);
+        hall.penalty(14, 'm', 14);
+        Hall.due("ends", hall.run(1000), 'e');
+        Hall.due("runs at the end", hall.running(0, true) + hall.running(1, true), 2);
+        Hall.due("waits at the end", hall.waiting(1), 1);
+        Hall.due("tenths of who was called on at the end", hall.tally(14, 'p'), 0);
+        hall.close();
+        Hall.laid(hall, 0);
+        hall.begin();
+        for (int side = 0; side < 2; side++) {
+            Hall.due("may", hall.may(side), 5);
+            Hall.due("runs", hall.running(side, true) + hall.running(side, false), 0);
+            Hall.due("waits", hall.waiting(side), 0);
+        }
+        Hall.due("left", hall.leftOf(2) + hall.leftOf(12), 0);
+        Hall.due("on the ice", hall.placeOf(2) * 10 + hall.placeOf(12), 12);
+        Hall.impossible(hall, "a sixth skater", 'n', 5, () -> hall.enter(7));
+        hall.faceOff(1);
+        hall.touch(2);
+        Hall.due("nobody is short", hall.send(3), 's');
     }
 
     private static void bansAreServed() {
@@ -327,7 +364,9 @@ public final class MatchTest {
         }
         Hall.refused(hall, "again -1", ARGUMENT, () -> hall.again(-1, 0));
         Hall.refused(hall, "again 32", ARGUMENT, () -> hall.again(32, 0));
+        Hall.refused(hall, "again of a wrong side, too", ARGUMENT, () -> hall.again(32, 2));
         Hall.refused(hall, "penalty kind", ARGUMENT, () -> hall.penalty(2, 'n', 2));
+        Hall.refused(hall, "penalty kind of who serves not", ARGUMENT, () -> hall.penalty(9, 'n', 19));
         Hall.refused(hall, "review kind", ARGUMENT, () -> hall.review('K'));
         Hall.due("none of these was refused as not possible", (Object) Hall.thrownBy(hall::why), NOTHING);
     }

@@ -11,10 +11,16 @@ public final class PenaltyTest {
         twoMinors();
         stacking();
         serversBlock();
+        serversBlockEachOther();
+        nextOneRunsFromTheEndOn();
+        tenthsAddUp();
         endsAtOnce();
         minorsCancel();
         editionFour();
+        editionFourBehindOneThatEnded();
         majorsCancel();
+        oneMajorOfEachSide();
+        tooManyCancels();
         putOut();
         putOutWhoServes();
         putOutServerOfMore();
@@ -265,6 +271,59 @@ public final class PenaltyTest {
         Hall.due("the minor of the third one waits", third.leftOf(4), 1200);
     }
 
+    // Promise 49: of three servers the first one's second penalty waits for the first one's alone.
+    private static void serversBlockEachOther() {
+        Blueline hall = Hall.begun(0);
+        hall.penalty(2, 'x', 2);
+        hall.penalty(3, 'x', 3);
+        hall.penalty(2, 'm', 2);
+        hall.penalty(3, 'm', 3);
+        hall.penalty(4, 'm', 4);
+        hall.sit();
+        Hall.due("misconducts of both run", hall.running(0, false), 2);
+        Hall.due("the minor of the third one runs", hall.running(0, true), 1);
+        Hall.due("minors of the first two wait", hall.waiting(0), 2);
+        Hall.due("may be 4", hall.may(0), 4);
+    }
+
+    // Promise 50: tenths that go by at once count for each as long as it runs.
+    private static void nextOneRunsFromTheEndOn() {
+        Blueline hall = Hall.begun(0);
+        hall.penalty(2, 'm', 2);
+        hall.penalty(2, 'M', 2);
+        hall.penalty(13, 'm', 13);
+        hall.penalty(13, 'x', 13);
+        hall.penalty(14, 'x', 14);
+        hall.faceOff(1);
+        hall.run(1300);
+        Hall.due("100 of the major went by", hall.leftOf(2), 2900);
+        Hall.due("100 of the misconduct went by", hall.leftOf(13), 5900);
+        Hall.due("1300 of the other one", hall.leftOf(14), 4700);
+        hall.run(2900);
+        Hall.due("the major ended", hall.placeOf(2), 1);
+        Hall.due("left of the misconduct", hall.leftOf(13), 3000);
+        hall.run(3000);
+        Hall.due("none runs", hall.running(1, false), 0);
+    }
+
+    // Promise 59: tenths of all kinds that one was called on.
+    private static void tenthsAddUp() {
+        Blueline hall = Hall.begun(0);
+        int[] tenths = {1200, 7200, 10200, 12600, 15600, 21600, 24600};
+        String kinds = "mxM2Mx";
+        for (int i = 0; i < kinds.length(); i++) {
+            hall.penalty(2, kinds.charAt(i), 2);
+            hall.sit();
+            Hall.due("tally behind " + kinds.charAt(i), hall.tally(2, 'p'), tenths[i]);
+            Hall.due("left behind " + kinds.charAt(i), hall.leftOf(2), tenths[i]);
+        }
+        hall.penalty(2, 'X', 3);
+        hall.sit();
+        Hall.due("tally behind X", hall.tally(2, 'p'), 24600);
+        Hall.due("one of all runs, and that of who is out", hall.running(0, true), 2);
+        Hall.due("six wait", hall.waiting(0), 6);
+    }
+
     // Several that end at once, while another one waits.
     private static void endsAtOnce() {
         Blueline hall = Hall.begun(0);
@@ -308,6 +367,9 @@ public final class PenaltyTest {
         Hall.due("may be 5", hall.may(0), 5);
         Hall.due("in the box", hall.placeOf(2), -2);
         Hall.due("the tally has it", hall.tally(2, 'p'), 1200);
+        hall.penalty(3, 'm', 3);
+        hall.sit();
+        Hall.due("those that cancelled cancel no later one", hall.running(0, true), 1);
         Blueline two = Hall.begun(0);
         two.penalty(2, 'm', 2);
         two.penalty(3, '2', 3);
@@ -378,6 +440,28 @@ public final class PenaltyTest {
         Hall.due("one that does not count ahead is no hindrance", misconduct.running(0, true), 1);
     }
 
+    private static void editionFourBehindOneThatEnded() {
+        Blueline ended = Hall.begun(4);
+        ended.penalty(13, 'm', 13);
+        ended.faceOff(1);
+        ended.run(1199);
+        ended.stop();
+        Blueline still = Hall.begun(4);
+        still.penalty(13, 'm', 13);
+        still.faceOff(1);
+        still.run(1199);
+        ended.faceOff(1);
+        ended.run(1);
+        for (Blueline match : new Blueline[] {ended, still}) {
+            match.stop();
+            match.penalty(2, 'm', 2);
+            match.penalty(12, 'm', 12);
+            match.sit();
+        }
+        Hall.due("one that has ended is no hindrance", ended.running(0, true), 1);
+        Hall.due("one of a tenth is one", still.running(0, true), 0);
+    }
+
     private static void majorsCancel() {
         Blueline hall = Hall.begun(4);
         hall.penalty(2, 'M', 2);
@@ -392,6 +476,61 @@ public final class PenaltyTest {
         hall.run(3000);
         Hall.due("who cancelled waits", hall.placeOf(2), -2);
         Hall.due("who counted is on the ice", hall.placeOf(3), 1);
+    }
+
+    private static void oneMajorOfEachSide() {
+        Blueline hall = Hall.begun(0);
+        hall.penalty(2, 'M', 2);
+        hall.penalty(12, 'X', 13);
+        hall.sit();
+        Hall.due("of home", hall.running(0, false), 1);
+        Hall.due("of away", hall.running(1, false), 1);
+        Hall.due("none counts", hall.running(0, true) + hall.running(1, true), 0);
+        Blueline unlike = Hall.begun(0);
+        unlike.penalty(2, 'M', 2);
+        unlike.penalty(12, '2', 12);
+        unlike.penalty(13, 'x', 13);
+        unlike.sit();
+        Hall.due("a major and two minors count", unlike.running(0, true) + unlike.running(1, true), 2);
+        Hall.due("the second minor waits", unlike.waiting(1), 1);
+        Blueline later = Hall.begun(0);
+        later.penalty(2, 'M', 2);
+        later.penalty(12, 'M', 12);
+        later.sit();
+        later.penalty(3, 'M', 3);
+        later.sit();
+        Hall.due("those that cancelled cancel no later one", later.running(0, true), 1);
+        Blueline earlier = Hall.begun(0);
+        earlier.penalty(2, 'm', 2);
+        earlier.penalty(3, 'M', 3);
+        earlier.penalty(4, 'm', 4);
+        earlier.penalty(5, 'M', 5);
+        earlier.penalty(12, 'M', 12);
+        earlier.penalty(13, 'm', 13);
+        earlier.faceOff(1);
+        Hall.due("the earlier ones do not count", earlier.running(0, false), 2);
+        Hall.due("the later ones count", earlier.running(0, true), 2);
+        earlier.run(3000);
+        Hall.due("the earlier minor waits in the box", earlier.placeOf(2), -2);
+        Hall.due("the earlier major, too", earlier.placeOf(3), -2);
+        Hall.due("the later minor is on the ice", earlier.placeOf(4), 1);
+        Hall.due("the later major, too", earlier.placeOf(5), 1);
+    }
+
+    // Promise 32: the minor for too many on the ice is one as others.
+    private static void tooManyCancels() {
+        Blueline hall = Hall.playing(0, 1);
+        Hall.due("too many", hall.enter(7), 's');
+        hall.penalty(12, 'm', 12);
+        hall.sit();
+        Hall.due("both do not count", hall.running(0, true) + hall.running(1, true), 0);
+        Hall.due("both run", hall.running(0, false) + hall.running(1, false), 2);
+        Hall.due("tally", hall.tally(7, 'p'), 1200);
+        Blueline four = Hall.playing(4, 1);
+        four.enter(7);
+        four.penalty(12, 'm', 12);
+        four.sit();
+        Hall.due("by the edition 4 both count", four.running(0, true) + four.running(1, true), 2);
     }
 
     // Promises 33 and 43.

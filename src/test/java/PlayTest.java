@@ -11,6 +11,7 @@ public final class PlayTest {
         entryIsOffside();
         offsideWaits();
         offsideEnds();
+        offsideOfAway();
         icings();
         icingWhenShort();
         races();
@@ -296,6 +297,40 @@ public final class PlayTest {
         Hall.due("stopped", stopped.isOffside(0), false);
     }
 
+    private static Blueline awayOffside() {
+        Blueline hall = Hall.playing(1, 1);
+        hall.touch(12);
+        hall.go(13, 0);
+        hall.carry(0);
+        Hall.due("away is offside", hall.isOffside(1), true);
+        Hall.due("home is not", hall.isOffside(0), false);
+        return hall;
+    }
+
+    // Promise 46: the side 1.
+    private static void offsideOfAway() {
+        Blueline gone = awayOffside();
+        gone.leave(13);
+        Hall.due("who carried is still there", gone.isOffside(1), true);
+        gone.go(12, 1);
+        Hall.due("none is there", gone.isOffside(1), false);
+        Blueline stopped = awayOffside();
+        stopped.stop();
+        Hall.due("stopped", stopped.isOffside(1), false);
+        Blueline puck = awayOffside();
+        puck.carry(1);
+        Hall.due("the puck is not there", puck.isOffside(1), false);
+        puck.go(12, 1);
+        Hall.due("may touch then", puck.touch(12), 'p');
+        Blueline touched = awayOffside();
+        Hall.impossible(touched, "no goal", 'o', 1, () -> touched.goal(13, -1, -1));
+        Hall.due("a touch stops", touched.touch(13), 's');
+        Hall.due("not offside then", touched.isOffside(1), false);
+        Blueline ended = awayOffside();
+        ended.run(12000);
+        Hall.due("not behind the period", ended.isOffside(1), false);
+    }
+
     // Promise 27: an icing.
     private static void icings() {
         for (int from = 0; from < 4; from++) {
@@ -500,6 +535,14 @@ public final class PlayTest {
         Hall.impossible(hall, "a fifth skater", 'n', 4, () -> hall.enter(16));
         hall.leave(10);
         Hall.due("and without a goalie", hall.may(1), 5);
+        hall.penalty(3, 'm', 3);
+        hall.penalty(4, 'm', 4);
+        hall.sit();
+        Hall.due("two of three run for the other side", hall.may(1), 6);
+        hall.leave(0);
+        Hall.due("without a goalie, three of its own", hall.may(0), 4);
+        hall.enter(11);
+        Hall.due("with a goalie again", hall.may(1), 5);
     }
 
     // Promises 22 to 37: at most 200 events.

@@ -11,6 +11,7 @@ public final class RosterTest {
         players();
         caps();
         signing();
+        signingUpToTheFirstCap();
         releasing();
         trading();
         injuring();
@@ -19,6 +20,8 @@ public final class RosterTest {
         claiming();
         passing();
         waiversEnd();
+        waiversOfTheFirst();
+        waiversUpToTheCap();
         banning();
         numbersOutOfRange();
         lineupsAreLocked();
@@ -99,6 +102,23 @@ public final class RosterTest {
         low.setCap(9);
         Hall.refused(low, "a hit of 0 above the cap", UNSUPPORTED, () -> low.sign(1, 0));
         Hall.due("above a lowered cap all is sound", low.isSound(), true);
+    }
+
+    private static void signingUpToTheFirstCap() {
+        Blueline hall = new Blueline();
+        hall.club();
+        for (int player = 0; player < 8; player++) {
+            hall.player(false, player < 5 ? 999 : player - 1);
+            if (player < 5) {
+                hall.sign(player, 0);
+            }
+        }
+        Hall.refused(hall, "5001", UNSUPPORTED, () -> hall.sign(7, 0));
+        Hall.due("4999", hall.sign(5, 0), 4999);
+        Hall.refused(hall, "5 more", UNSUPPORTED, () -> hall.sign(6, 0));
+        hall.release(5);
+        Hall.due("5000", hall.sign(6, 0), 5000);
+        Hall.due("all is sound at the cap", hall.isSound(), true);
     }
 
     // Promise 6.
@@ -196,6 +216,13 @@ public final class RosterTest {
         hall.down(3);
         hall.setCap(hall.payroll(0) + 101);
         Hall.refused(hall, "active above the cap", UNSUPPORTED, () -> hall.injure(2, false));
+        Hall.refused(hall, "who is down active above the cap", UNSUPPORTED, () -> hall.injure(3, false));
+        hall.setCap(hall.payroll(0) + 102);
+        Hall.refused(hall, "who is down active 1 above the cap", UNSUPPORTED, () -> hall.injure(3, false));
+        Hall.due("active up to the cap", hall.injure(2, false), 'i');
+        hall.setCap(hall.payroll(0) + 103);
+        Hall.due("who is down active up to the cap", hall.injure(3, false), 'd');
+        hall.injure(2, true);
         hall.setCap(0);
         Hall.due("injuring adds nothing", hall.injure(4, true), 'a');
         Hall.due("an active one told active adds nothing", hall.injure(5, false), 'a');
@@ -282,6 +309,8 @@ public final class RosterTest {
         hall.trade(2, 12);
         Hall.due("traded, on no waivers", hall.statusOf(2), 'a');
         hall.down(2);
+        Hall.refused(hall, "claim by the new club", UNSUPPORTED, () -> hall.claim(1, 2));
+        Hall.due("claims start anew in the new club", hall.claim(0, 2), 1);
         hall.release(2);
         Hall.due("released, on no waivers", hall.statusOf(2), 'n');
         hall.sign(2, 2);
@@ -328,6 +357,38 @@ public final class RosterTest {
         Hall.due("active there", hall.statusOf(2), 'a');
         Hall.due("charged there already", (Object) hall.charge(3), 102L);
         waiversUnderTheCap();
+    }
+
+    // Promises 9 and 12: the player 0, and the club that is the first of the table.
+    private static void waiversOfTheFirst() {
+        Blueline hall = threeMatches();
+        Hall.due("the first player is on waivers", hall.down(0), false);
+        hall.pass();
+        Hall.due("and down", hall.statusOf(0), 'd');
+        Hall.due("the first player of the other one", hall.down(10), false);
+        Hall.due("claimed by the first club of the table", hall.claim(0, 10), 1);
+        Hall.due("it is the first one", hall.ranked(0), 0);
+        hall.pass();
+        Hall.due("has the player", hall.clubOf(10), 0);
+        Hall.due("active", hall.statusOf(10), 'a');
+        Hall.due("on waivers again, behind as many matches", hall.down(10), false);
+        Hall.due("claims start anew", hall.claim(3, 10), 1);
+        hall.pass();
+        hall.pass();
+        Hall.due("goes once", hall.clubOf(10), 3);
+        Hall.due("charge of two days", (Object) hall.charge(3), 220L);
+    }
+
+    private static void waiversUpToTheCap() {
+        for (int cap = 101; cap <= 102; cap++) {
+            Blueline hall = threeMatches();
+            hall.down(2);
+            hall.claim(3, 2);
+            hall.setCap(cap);
+            hall.pass();
+            Hall.due("a hit of 102 under the cap " + cap, hall.clubOf(2), cap < 102 ? 0 : 3);
+            Hall.due("status by it", hall.statusOf(2), cap < 102 ? 'd' : 'a');
+        }
     }
 
     private static void waiversUnderTheCap() {

@@ -10,6 +10,8 @@ public final class TableTest {
         ties();
         rankedByWins();
         rankedByGoals();
+        rankedByAllMatches();
+        rankedByLateWins();
         shares();
         wrongNumbers();
         sums();
@@ -39,6 +41,7 @@ public final class TableTest {
             Hall.endThirdPeriod(hall);
             hall.close();
             Hall.due("goals behind the closing", hall.tally(2, 'g'), match);
+            Hall.due("assists behind the closing", hall.tally(3, 'a'), match);
             Hall.due("minus behind the closing", hall.tally(15, '+'), -match);
             Hall.due("tenths behind the closing", hall.tally(2, 'p'), 1200 * match);
         }
@@ -133,6 +136,43 @@ public final class TableTest {
         Hall.due("by numbers", order(alike), "2301");
     }
 
+    // Promise 61: what all matches gave, not the last one alone.
+    private static void rankedByAllMatches() {
+        Blueline goals = fourClubs();
+        play(goals, 0, 1, 3, 0);
+        play(goals, 0, 1, 0, 2);
+        Hall.due("by goals of both matches", order(goals), "0123");
+        Blueline against = fourClubs();
+        play(against, 1, 0, 0, 2);
+        play(against, 1, 0, 3, 0);
+        Hall.due("by goals against of both matches", order(against), "1023");
+        Blueline wins = fourClubs();
+        play(wins, 0, 2, 1, 0);
+        play(wins, 0, 3, 1, 0);
+        play(wins, 1, 2, 5, 0);
+        play(wins, 1, 2, 0, 0);
+        play(wins, 1, 3, 0, 0);
+        play(wins, 1, 3, 0, 0);
+        Hall.due("alike points", wins.points(0) * 10 + wins.points(1), 66);
+        Hall.due("by two wins ahead of one", order(wins).substring(0, 2), "01");
+    }
+
+    // Promise 61: who won in the period 4 has no win in the periods 1 to 3 by it, nor one less.
+    private static void rankedByLateWins() {
+        Blueline hall = fourClubs();
+        hall.match(0, 2, 8);
+        dressAll(hall, 0, 2);
+        Hall.endThirdPeriod(hall);
+        hall.faceOff(3);
+        hall.touch(1);
+        hall.goal(1, -1, -1);
+        hall.close();
+        play(hall, 1, 3, 0, 0);
+        play(hall, 1, 3, 0, 0);
+        Hall.due("alike points", hall.points(0) * 10 + hall.points(1), 22);
+        Hall.due("by goals", order(hall), "0132");
+    }
+
     private static String order(Blueline hall) {
         return "" + hall.ranked(0) + hall.ranked(1) + hall.ranked(2) + hall.ranked(3);
     }
@@ -151,11 +191,7 @@ public final class TableTest {
 
     private static void play(Blueline hall, int home, int away, int homeGoals, int awayGoals) {
         hall.match(home, away, 0);
-        for (int player = 0; player < 6; player++) {
-            hall.dress(0, 6 * home + player);
-            hall.dress(1, 6 * away + player);
-        }
-        hall.begin();
+        dressAll(hall, home, away);
         for (int goal = 0; goal < homeGoals + awayGoals; goal++) {
             boolean isHome = goal < homeGoals;
             hall.faceOff(isHome ? 3 : 0);
@@ -164,6 +200,14 @@ public final class TableTest {
         }
         Hall.endThirdPeriod(hall);
         hall.close();
+    }
+
+    private static void dressAll(Blueline hall, int home, int away) {
+        for (int player = 0; player < 6; player++) {
+            hall.dress(0, 6 * home + player);
+            hall.dress(1, 6 * away + player);
+        }
+        hall.begin();
     }
 
     // Promises 62 and 63.
@@ -239,7 +283,16 @@ public final class TableTest {
         hall.send(0);
         Hall.due("racing", hall.isSound(), true);
         hall.race(1);
+        hall.penalty(12, 'X', 16);
+        hall.penalty(13, 'M', 13);
+        hall.penalty(6, 'x', 6);
+        Hall.due("with calls that wait", hall.isSound(), true);
+        hall.sit();
+        Hall.due("two run for each side", hall.running(0, true) * 10 + hall.running(1, true), 22);
+        Hall.due("with two of each side", hall.isSound(), true);
+        hall.faceOff(1);
         hall.run(2000);
+        Hall.due("behind some that ended", hall.isSound(), true);
         hall.setCap(0);
         Hall.due("a cap that was lowered", hall.isSound(), true);
         hall.strike(1);
