@@ -91,6 +91,9 @@ public final class GoalTest {
         Hall.impossible(hall, "second assist of a goalie", 'g', 0, () -> hall.goal(2, 3, 0));
         Hall.impossible(hall, "second assist of the other side", 'i', 12, () -> hall.goal(2, 3, 12));
         Hall.impossible(hall, "home has it", 'h', 0, () -> hall.goal(12, 13, 14));
+        Hall.impossible(hall, "home has it, first assist on the bench", 'i', 17, () -> hall.goal(12, 17, 14));
+        Hall.impossible(hall, "home has it, second assist of a goalie", 'g', 10, () -> hall.goal(12, 13, 10));
+        Hall.impossible(hall, "home has it, first assist of home", 'i', 3, () -> hall.goal(12, 3, 14));
         hall.send(2);
         Hall.impossible(hall, "none has it, home sent it", 'h', -1, () -> hall.goal(12, -1, -1));
         Hall.impossible(hall, "elsewhere", 'q', 2, () -> hall.goal(2, -1, -1));

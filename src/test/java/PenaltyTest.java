@@ -50,6 +50,8 @@ public final class PenaltyTest {
         Hall.impossible(hall, "who serves is in the box", 'v', 7, () -> hall.penalty(1, 'm', 7));
         Hall.impossible(hall, "who is out is not called on", 'v', 2, () -> hall.penalty(2, 'm', 2));
         Hall.impossible(hall, "who is out does not serve", 'v', 2, () -> hall.penalty(0, 'm', 2));
+        Hall.impossible(hall, "who is out goes first", 'v', 2, () -> hall.penalty(2, 'm', 9));
+        Hall.impossible(hall, "who is in no line-up goes first", 'v', 9, () -> hall.penalty(9, 'X', 2));
         Hall.due("a skater in the box may be called on", hall.penalty(7, 'm', 7), 's');
     }
 
@@ -284,6 +286,19 @@ public final class PenaltyTest {
         Hall.due("the minor of the third one runs", hall.running(0, true), 1);
         Hall.due("minors of the first two wait", hall.waiting(0), 2);
         Hall.due("may be 4", hall.may(0), 4);
+        Blueline third = Hall.begun(0);
+        third.penalty(3, 'm', 3);
+        third.penalty(4, 'm', 4);
+        third.penalty(2, 'm', 2);
+        third.penalty(2, 'x', 2);
+        third.sit();
+        Hall.due("the misconduct behind a minor that waits does not run", third.running(0, false), 0);
+        Hall.due("two wait", third.waiting(0), 2);
+        third.faceOff(1);
+        third.run(1200);
+        Hall.due("nor as the minor runs", third.leftOf(2), 7200);
+        third.run(1200);
+        Hall.due("it runs then", third.running(0, false), 1);
     }
 
     // Promise 50: tenths that go by at once count for each as long as it runs.
@@ -409,6 +424,12 @@ public final class PenaltyTest {
         two.penalty(12, 'm', 12);
         two.sit();
         Hall.due("two of one side cancel one", two.running(1, true), 0);
+        Blueline twoEach = Hall.begun(4);
+        twoEach.penalty(2, '2', 2);
+        twoEach.penalty(12, 'm', 12);
+        twoEach.penalty(13, 'm', 13);
+        twoEach.sit();
+        Hall.due("two of each side cancel", twoEach.running(0, true) + twoEach.running(1, true), 0);
         Blueline major = Hall.begun(4);
         major.penalty(2, 'm', 2);
         major.penalty(12, 'm', 12);
@@ -458,6 +479,14 @@ public final class PenaltyTest {
             match.penalty(12, 'm', 12);
             match.sit();
         }
+        Blueline waits = Hall.begun(4);
+        waits.penalty(13, 'x', 13);
+        waits.penalty(13, 'm', 13);
+        waits.sit();
+        waits.penalty(2, 'm', 2);
+        waits.penalty(12, 'm', 12);
+        waits.sit();
+        Hall.due("one ahead that counts and waits is one", waits.running(0, true) + waits.running(1, true), 0);
         Hall.due("one that has ended is no hindrance", ended.running(0, true), 1);
         Hall.due("one of a tenth is one", still.running(0, true), 0);
     }
@@ -694,6 +723,16 @@ public final class PenaltyTest {
         both.run(1200);
         Hall.due("the side 0 ends first, while the other one is short", both.placeOf(2), 1);
         Hall.due("the side 1 ends when the first one is not short", both.placeOf(12), -1);
+        Blueline away = Hall.begun(4 + 8);
+        Hall.endThirdPeriod(away);
+        away.penalty(12, 'm', 12);
+        away.penalty(2, 'm', 2);
+        away.faceOff(1);
+        away.enter(5);
+        away.enter(15);
+        away.run(1200);
+        Hall.due("the side 0 ends first, though called on later", away.placeOf(2), 1);
+        Hall.due("the side 1 ends then", away.placeOf(12), -1);
     }
 
     private static void waitersInTheBox() {

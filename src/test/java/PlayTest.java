@@ -183,6 +183,16 @@ public final class PlayTest {
         Hall.due("home sent it", hall.having(true), 0);
         hall.stop();
         Hall.due("sent by none behind a stop", hall.having(true), -1);
+        Blueline touched = Hall.playing(0, 1);
+        touched.touch(12);
+        touched.send(1);
+        touched.touch(2);
+        Hall.due("home has it", touched.having(false), 0);
+        Hall.due("away still sent it last", touched.having(true), 1);
+        touched.carry(1);
+        Hall.due("carried, it is sent by none", touched.having(true), -1);
+        touched.send(1);
+        Hall.due("home sent it last", touched.having(true), 0);
     }
 
     // Promise 28.
@@ -442,6 +452,7 @@ public final class PlayTest {
         Hall.impossible(hall, "on the ice already", 'b', 2, () -> hall.enter(2));
         Hall.impossible(hall, "in no line-up", 'b', 9, () -> hall.enter(9));
         Hall.impossible(hall, "a second goalie", 'g', 1, () -> hall.enter(1));
+        Hall.impossible(hall, "a goalie on the ice already", 'b', 0, () -> hall.enter(0));
         hall.leave(0);
         Hall.due("a sixth skater for the goalie", hall.enter(7), 's');
         Hall.due("at the gate", hall.placeOf(7), 1);

@@ -311,6 +311,11 @@ public final class RosterTest {
         hall.down(2);
         Hall.refused(hall, "claim by the new club", UNSUPPORTED, () -> hall.claim(1, 2));
         Hall.due("claims start anew in the new club", hall.claim(0, 2), 1);
+        hall.trade(3, 2);
+        Hall.due("traded for another one, on no waivers", hall.statusOf(2), 'a');
+        Hall.due("back in the club", hall.clubOf(2), 0);
+        hall.down(2);
+        Hall.due("claims start anew again", hall.claim(3, 2), 1);
         hall.release(2);
         Hall.due("released, on no waivers", hall.statusOf(2), 'n');
         hall.sign(2, 2);
