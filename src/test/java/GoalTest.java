@@ -270,6 +270,17 @@ public final class GoalTest {
         Hall.due("a refused goal takes nothing back", twice.waiting(1), 1);
         twice.sit();
         Hall.due("both minors began", twice.leftOf(13), 2400);
+        Blueline three = attacking(0);
+        three.penalty(12, 'm', 12);
+        three.penalty(13, 'M', 13);
+        three.penalty(14, 'm', 14);
+        three.goal(2, -1, -1);
+        Hall.due("two are left behind the goal", three.waiting(1), 2);
+        three.review('k');
+        Hall.due("all three wait again", three.waiting(1), 3);
+        Hall.due("none of home", three.waiting(0), 0);
+        three.sit();
+        Hall.due("all three began", three.leftOf(12) + three.leftOf(13) + three.leftOf(14), 5400);
     }
 
     // Promise 35: in the period 4.

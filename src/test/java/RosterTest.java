@@ -382,6 +382,11 @@ public final class RosterTest {
         hall.pass();
         Hall.due("goes once", hall.clubOf(10), 3);
         Hall.due("charge of two days", (Object) hall.charge(3), 220L);
+        hall.down(12);
+        hall.claim(0, 12);
+        hall.claim(2, 12);
+        hall.pass();
+        Hall.due("the first of the table goes behind a lower one", hall.clubOf(12), 2);
     }
 
     private static void waiversUpToTheCap() {
