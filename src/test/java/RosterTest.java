@@ -191,6 +191,25 @@ public final class RosterTest {
         Hall.due("no payroll rises, though one is above the cap", hall.trade(3, 4), 100);
         Hall.due("a payroll falls, though it stays above the cap", hall.trade(1, 0), 200);
         Hall.due("it stays above the cap", hall.payroll(0), 400);
+        tradingForNothing();
+    }
+
+    // An active player of hit 0 for an injured one: no payroll rises, though one is above the cap.
+    private static void tradingForNothing() {
+        Blueline hall = new Blueline();
+        hall.club();
+        hall.club();
+        int[] hits = {100, 50, 0};
+        for (int player = 0; player < 3; player++) {
+            hall.player(false, hits[player]);
+            hall.sign(player, player == 2 ? 1 : 0);
+        }
+        hall.injure(1, true);
+        hall.setCap(99);
+        Hall.due("trade", hall.trade(1, 2), 0);
+        Hall.due("payroll of the other one", hall.payroll(0), 100);
+        int free = hall.player(false, 0);
+        Hall.refused(hall, "signed above the cap", UNSUPPORTED, () -> hall.sign(free, 0));
     }
 
     // Promise 8.
